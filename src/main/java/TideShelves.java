@@ -586,6 +586,8 @@ public final class TideShelves {
     /** Numbers told by their bits. IEEE is worked out on whole numbers: the language leaves no way to a double's bits. */
     private static final class Kinds {
         private static final int FLOAT_FRACTION = 23, FLOAT_BIAS = 127, FLOAT_TOP_EXPONENT = 255;
+        private static final int LEAST_FLOAT_EXPONENT = 1 - FLOAT_BIAS - FLOAT_FRACTION;
+        private static final long LEAST_NORMAL_FLOAT = 1L << FLOAT_FRACTION;
         private static final int DOUBLE_FRACTION = 52, DOUBLE_BIAS = 1023, DOUBLE_TOP_EXPONENT = 2047;
         private static final long FLOAT_INFINITY = (long) FLOAT_TOP_EXPONENT << FLOAT_FRACTION;
         private static final long DOUBLE_INFINITY = (long) DOUBLE_TOP_EXPONENT << DOUBLE_FRACTION;
@@ -681,18 +683,12 @@ public final class TideShelves {
             if (size >= FLOAT_INFINITY) {
                 return sign | DOUBLE_INFINITY;
             }
-            long hidden = 1L << FLOAT_FRACTION;
-            if (size < hidden) {
-                return sign | smallFloatAsDouble(size);
+            if (size < LEAST_NORMAL_FLOAT) {
+                // So many of the least FLOAT, and normal as a DOUBLE.
+                return sign | wholeAsIeee(size, DOUBLE_FRACTION, DOUBLE_BIAS + LEAST_FLOAT_EXPONENT, 0);
             }
             long rebias = (long) (DOUBLE_BIAS - FLOAT_BIAS) << DOUBLE_FRACTION;
             return sign | ((size << (DOUBLE_FRACTION - FLOAT_FRACTION)) + rebias);
-        }
-
-        /** A FLOAT below the normal ones is so many of the least one, and normal as a DOUBLE. */
-        private static long smallFloatAsDouble(long steps) {
-            int leastExponent = 1 - FLOAT_BIAS - FLOAT_FRACTION;
-            return wholeAsIeee(steps, DOUBLE_FRACTION, DOUBLE_BIAS + leastExponent, 0);
         }
 
         /** In the order of the numbers themselves, with one rank for both zeros. */
