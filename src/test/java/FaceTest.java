@@ -3,16 +3,20 @@ import java.lang.reflect.Field;
 import java.lang.reflect.Method;
 import java.lang.reflect.Modifier;
 import java.util.Set;
+import java.util.StringJoiner;
 import java.util.TreeSet;
 
 /** The public face, and the rules of ../shared/LANGUAGE.md that can be seen from outside the source. */
 public final class FaceTest {
     private static final Set<String> CONSTANTS = Set.of("NONE -1", "NULL -11", "WRONG -12", "INDEX -13",
             "OUTSIDE -101", "FULL -102");
-    private static final Set<String> METHODS = Set.of("int shelve 3", "int mark 2", "int move 2", "int count 1",
-            "int read 3", "long seen 0", "int write 4", "int take 2", "int give 2", "int hold 2", "int held 0",
-            "long weight 0", "int note 2", "int noted 1", "int carry 5", "int ended 0", "int total 1",
-            "int peak 1", "int turn 1", "int sign 1", "int about 1");
+    private static final Set<String> METHODS = Set.of("int shelve(int, int, int)", "int mark(int, int)",
+            "int move(int, int)", "int count(int)", "int read(int, int, int)", "long seen()",
+            "int write(int, int, int, long)", "int take(int, int)", "int give(int, int)", "int hold(int, long)",
+            "int held()", "long weight()", "int note(int, int)", "int noted(int)",
+            "int carry(int, int, int, int, int)", "int ended()", "int total(int)", "int peak(int)", "int turn(int)",
+            "int sign(int)", "int about(int)");
+    private static final int MOST_PARAMETERS = 7, MOST_FIELDS = 20, MOST_CLASSES = 12;
 
     public static void main(String[] args) throws IllegalAccessException {
         Due.part("face");
@@ -20,11 +24,15 @@ public final class FaceTest {
         Due.is("public and final", face.getModifiers(), Modifier.PUBLIC | Modifier.FINAL);
         same("constants", constants(face), CONSTANTS);
         same("methods", methods(face), METHODS);
+        Due.is("constructors", face.getDeclaredConstructors().length, 1);
         for (Constructor<?> made : face.getDeclaredConstructors()) {
             Due.is("constructor's modifiers", made.getModifiers(), Modifier.PUBLIC);
             Due.is("constructor's parameters", made.getParameterCount(), 0);
         }
+        Due.is("nothing above but Object", face.getSuperclass() == Object.class ? 1 : 0, 1);
+        Due.is("interfaces", face.getInterfaces().length, 0);
         nested(face);
+        sizes(face);
         Due.end();
     }
 
@@ -35,9 +43,8 @@ public final class FaceTest {
             if (!Modifier.isPrivate(is)) {
                 Due.is(field.getName() + " is public static final", is,
                         Modifier.PUBLIC | Modifier.STATIC | Modifier.FINAL);
+                Due.is(field.getName() + " is an int", field.getType() == int.class ? 1 : 0, 1);
                 found.add(field.getName() + " " + field.getInt(null));
-            } else if (Modifier.isStatic(is)) {
-                Due.is(field.getName() + " is final", Modifier.isFinal(is) ? 1 : 0, 1);
             }
         }
         return found;
@@ -50,20 +57,51 @@ public final class FaceTest {
             if (Modifier.isPrivate(method.getModifiers())) {
                 hidden.add(method.getName());
             } else {
-                found.add(method.getReturnType() + " " + method.getName() + " " + method.getParameterCount());
+                Due.is(method.getName() + " is public and nothing else", method.getModifiers(), Modifier.PUBLIC);
+                Due.is(method.getName() + " throws", method.getExceptionTypes().length, 0);
+                found.add(signature(method));
             }
         }
-        for (String one : METHODS) {
-            Due.is("no private method of the name in '" + one + "'", hidden.contains(one.split(" ")[1]) ? 1 : 0, 0);
+        for (Method method : face.getDeclaredMethods()) {
+            boolean isPublic = Modifier.isPublic(method.getModifiers());
+            Due.is("a private " + method.getName(), isPublic && hidden.contains(method.getName()) ? 1 : 0, 0);
         }
         return found;
     }
 
+    private static String signature(Method method) {
+        StringJoiner parameters = new StringJoiner(", ", "(", ")");
+        for (Class<?> parameter : method.getParameterTypes()) {
+            parameters.add(parameter.getName());
+        }
+        return method.getReturnType() + " " + method.getName() + parameters;
+    }
+
     private static void nested(Class<?> face) {
         Class<?>[] inside = face.getDeclaredClasses();
-        Due.is("at most twelve classes", Math.max(inside.length, 11), 11);
+        Due.is("most classes", Math.max(1 + inside.length, MOST_CLASSES), MOST_CLASSES);
         for (Class<?> one : inside) {
-            Due.is(one + " is static", Modifier.isStatic(one.getModifiers()) ? 1 : 0, 1);
+            int is = one.getModifiers();
+            Due.is(one + " is static", Modifier.isStatic(is) ? 1 : 0, 1);
+            Due.is(one + " is public or protected", Modifier.isPublic(is) || Modifier.isProtected(is) ? 1 : 0, 0);
+            sizes(one);
+        }
+    }
+
+    private static void sizes(Class<?> one) {
+        int fields = 0;
+        for (Field field : one.getDeclaredFields()) {
+            if (Modifier.isStatic(field.getModifiers())) {
+                Due.is(one + "'s static " + field.getName() + " is final", field.getModifiers() & Modifier.FINAL,
+                        Modifier.FINAL);
+            } else {
+                fields++;
+            }
+        }
+        Due.is("most fields of " + one, Math.max(fields, MOST_FIELDS), MOST_FIELDS);
+        for (Method method : one.getDeclaredMethods()) {
+            int parameters = method.getParameterCount();
+            Due.is("most parameters of " + method, Math.max(parameters, MOST_PARAMETERS), MOST_PARAMETERS);
         }
     }
 
